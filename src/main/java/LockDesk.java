@@ -252,7 +252,7 @@ public final class LockDesk {
     /** Whether s, which does not wait, would come to wait on itself if it waited on these first. */
     private boolean closesRing(int s, int first) {
         int reached = first;
-        // Each round but the last goes one step on at least, and a way through all has six steps.
+        // A round goes one step on at least, and no way through six sessions needs more than six.
         for (int round = 0; round < SESSIONS; round++) {
             for (int t = 0; t < SESSIONS; t++) {
                 if (has(reached, t)) {

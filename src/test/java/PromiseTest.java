@@ -18,6 +18,7 @@ public final class PromiseTest {
         lockSharedAndUpdate();
         lockTellsTheLeast();
         lockWithinASession();
+        lockOfManyRows();
         lockRefuses();
         awaitANumber();
         awaitClosesNoRing();
@@ -321,6 +322,16 @@ public final class PromiseTest {
         due("locker", x.locker(3, 1), 3);
     }
 
+    /** With number and the last locker, as many calls as an object is used for. */
+    private static void lockOfManyRows() {
+        LockDesk x = start("5, as many locks as calls");
+        due("number", x.number(0), 1);
+        for (int row = 0; row < 510; row++) {
+            due("lock", x.lock(1, 1199 - row, 1 + row % 2), 0);
+        }
+        due("locker", x.locker(690, 0), 1);
+    }
+
     private static void lockRefuses() {
         LockDesk x = start("5, refused");
         due("number", x.number(0), 1);
@@ -376,6 +387,15 @@ public final class PromiseTest {
         due("wish", x.wish(5), 0);
         due("over", x.over(4), true);
         due("no ring any more", x.await(5, 1), 1);
+
+        x = start("6, a ring of six the other way round");
+        for (int s = 0; s < 6; s++) {
+            due("number", x.number(s), s + 1);
+        }
+        for (int s = 5; s > 0; s--) {
+            due("await", x.await(s, s), 1);
+        }
+        due("a ring of six", x.await(0, 6), 2);
 
         x = start("6, a ring through a table");
         due("number", x.number(0), 1);
@@ -693,6 +713,13 @@ public final class PromiseTest {
         due("whose the number is", x.on(3), 1);
         due("over", x.over(1), true);
         due("on none any more", x.on(3), 0);
+        due("next", x.next(), 2);
+        due("next", x.next(), 3);
+        due("ask after await", x.ask(3, 0, 0, 5), 1);
+        due("wish", x.wish(3), 5);
+        due("a holder and one before", x.on(3), 4 + 2);
+        due("ask", x.ask(4, 0, 0, 4), 1);
+        due("a holder and two before", x.on(4), 4 + 2 + 8);
         due("session", x.on(6), 0);
         for (int wrong : WRONG) {
             due("session", x.on(wrong), 0);
@@ -719,6 +746,19 @@ public final class PromiseTest {
         due("await: at the end now", x.await(0, 1), 1);
         due("waiting", x.waiting(1), 5);
         due("waiting", x.waiting(4), 0);
+        due("over", x.over(1), true);
+        due("number", x.number(4), 2);
+        due("await: all six", x.await(3, 2), 1);
+        due("the sixth", x.waiting(5), 3);
+        due("none", x.waiting(6), -1);
+        due("drop", x.drop(0), true);
+        due("refused", x.ask(3, 0, 0, 1), -1);
+        int[] awake = {4, 13, 2, 9, 0};
+        for (int s : awake) {
+            due("next", x.next(), s);
+        }
+        due("next", x.next(), -1);
+        due("waiting", x.waiting(0), 3);
     }
 
     private static void wishTellsAll() {

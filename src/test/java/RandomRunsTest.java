@@ -27,6 +27,7 @@ public final class RandomRunsTest {
             new RandomRunsTest(run).go(checks);
         }
         stormOfAnything(checks);
+        locksWithoutEnd(checks);
         checks.finish("RandomRunsTest");
     }
 
@@ -123,6 +124,19 @@ public final class RandomRunsTest {
                 }
                 int got = answer(desk, name, v[0], v[1], v[2], v[3]);
                 checks.due(name + " answered " + got, got >= -4000 && got <= 14000, true);
+            }
+        }
+    }
+
+    /** Far more locks than 512 calls can note: their answers are free, but there are answers. */
+    private static void locksWithoutEnd(Checks checks) {
+        checks.part("locks without end");
+        LockDesk desk = new LockDesk();
+        for (int n = 1; n <= 3; n++) {
+            checks.due("number", desk.number(0), n);
+            for (int row = 0; row < 1200; row++) {
+                int got = desk.lock(n, row, 2);
+                checks.due("lock answered " + got, got == 0 || got == -1, true);
             }
         }
     }
