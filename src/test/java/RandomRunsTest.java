@@ -15,8 +15,7 @@ import java.util.Set;
 public final class RandomRunsTest {
     private static final int RUNS = 4000;
     private static final int CALLS = 512;
-    private static final String[] CALL = {"number", "over", "ask", "lock", "await", "next", "cancel",
-        "end", "release", "drop", "clear", "holds", "locker", "on", "waiting", "wish"};
+    /** How often each of Calls.NAMES is drawn, in their order. */
     private static final int[] WEIGHT = {4, 2, 14, 9, 7, 7, 2, 2, 3, 1, 1, 6, 6, 6, 3, 4};
     private static final int[] ODD = {-1, 6, 7, 8, 9, 1199, 1200, 4000, 4001, Integer.MIN_VALUE,
         Integer.MAX_VALUE};
@@ -54,7 +53,7 @@ public final class RandomRunsTest {
             int c = argument(name, 2);
             int d = argument(name, 3);
             checks.due(i + ", " + name + "(" + a + ", " + b + ", " + c + ", " + d + ")",
-                answer(desk, name, a, b, c, d), model.answer(name, a, b, c, d));
+                Calls.answer(desk, name, a, b, c, d), model.answer(name, a, b, c, d));
             if (model.hasRing()) {
                 checks.due(i + ", " + name + " closed a ring", true, false);
             }
@@ -67,10 +66,10 @@ public final class RandomRunsTest {
             sum += weight;
         }
         int left = random.nextInt(sum);
-        for (int k = 0; k < CALL.length; k++) {
+        for (int k = 0; k < Calls.NAMES.length; k++) {
             left -= WEIGHT[k];
             if (left < 0) {
-                return CALL[k];
+                return Calls.NAMES[k];
             }
         }
         return "next";
@@ -116,13 +115,13 @@ public final class RandomRunsTest {
         for (int object = 0; object < 4; object++) {
             LockDesk desk = new LockDesk();
             for (int i = 0; i < 60000; i++) {
-                String name = CALL[random.nextInt(CALL.length)];
+                String name = Calls.NAMES[random.nextInt(Calls.NAMES.length)];
                 int bound = random.nextBoolean() ? 8 : 5000;
                 int[] v = new int[4];
                 for (int k = 0; k < v.length; k++) {
                     v[k] = random.nextInt(20) == 0 ? random.nextInt() : random.nextInt(bound);
                 }
-                int got = answer(desk, name, v[0], v[1], v[2], v[3]);
+                int got = Calls.answer(desk, name, v[0], v[1], v[2], v[3]);
                 checks.due(name + " answered " + got, got >= -4000 && got <= 14000, true);
             }
         }
@@ -139,31 +138,6 @@ public final class RandomRunsTest {
                 checks.due("lock answered " + got, got == 0 || got == -1, true);
             }
         }
-    }
-
-    private static int answer(LockDesk x, String name, int a, int b, int c, int d) {
-        return switch (name) {
-            case "number" -> x.number(a);
-            case "over" -> truth(x.over(a));
-            case "ask" -> x.ask(a, b, c, d);
-            case "lock" -> x.lock(a, b, c);
-            case "await" -> x.await(a, b);
-            case "next" -> x.next();
-            case "cancel" -> truth(x.cancel(a));
-            case "end" -> truth(x.end(a, b));
-            case "release" -> truth(x.release(a, b));
-            case "drop" -> truth(x.drop(a));
-            case "clear" -> truth(x.clear(a));
-            case "holds" -> x.holds(a, b, c);
-            case "locker" -> x.locker(a, b);
-            case "on" -> x.on(a);
-            case "waiting" -> x.waiting(a);
-            default -> x.wish(a);
-        };
-    }
-
-    private static int truth(boolean yes) {
-        return yes ? 1 : 0;
     }
 
     private record Hold(int session, int table, int mode) {
@@ -194,12 +168,12 @@ public final class RandomRunsTest {
         int answer(String name, int a, int b, int c, int d) {
             return switch (name) {
                 case "number" -> number(a);
-                case "over" -> truth(given(a) && over.add(a));
+                case "over" -> Calls.truth(given(a) && over.add(a));
                 case "ask" -> ask(a, b, c, d);
                 case "lock" -> lock(a, b, c);
                 case "await" -> await(a, b);
                 case "next" -> next();
-                case "cancel" -> truth(waits.removeIf(w -> w.session == a));
+                case "cancel" -> Calls.truth(waits.removeIf(w -> w.session == a));
                 case "end" -> end(a, b);
                 case "release" -> release(a, b);
                 case "drop" -> drop(a);
@@ -342,7 +316,7 @@ public final class RandomRunsTest {
 
         private int clear(int row) {
             locks.removeIf(lock -> lock.row == row);
-            return truth(within(row, 0, 1199));
+            return Calls.truth(within(row, 0, 1199));
         }
 
         private int locker(int row, int k) {
